@@ -268,10 +268,11 @@ public final class GroupLog {
     private int writeQueue() {
         int place = log.nextPlace;
         int sectors = queue.sectorsWith(0);
+        int version = store.headVersion();
         int whole = 0;
         for (int k = 0; k < sectors && on; k++) {
             queue.fill(draft, k);
-            draft.sealLog(log.nextSerial, store.headVersion());
+            draft.sealLog(log.nextSerial, version);
             if (writeDraft(log.nextPlace)) {
                 log.advance(1);
                 whole++;
@@ -343,8 +344,8 @@ public final class GroupLog {
 
         private int sumOver(int sum, int from, int to) {
             int s = sum;
-            for (int i = from; i < to; i++) {
-                s ^= get(i);
+            for (int i = Math.max(0, from); i < to && i < bytes.length; i++) {
+                s ^= bytes[i];
                 for (int bit = 0; bit < 8; bit++) {
                     s = (s & 1) == 1 ? s >>> 1 ^ SUM_MASK : s >>> 1;
                 }

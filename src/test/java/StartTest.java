@@ -167,6 +167,8 @@ public final class StartTest {
         due.is("start", b.log.start(), -2);
         due.is("off", b.log.count(0), 0);
         due.is("no step", b.log.count(6), 1);
+        b.layHead(1, 0, 1, 1, 2);
+        due.is("a head of version 0 is none", b.log.start(), -2);
         b.log.poke(0, 16, 1);
         due.is("mended", b.log.start(), 1);
     }
@@ -245,8 +247,14 @@ public final class StartTest {
             b.lay(2, Bench.sector(1, data.length, 0, 1, data));
             due.is("size " + r[0] + ", number " + r[1], b.log.start(), r[2]);
         }
-        int[][] long2 = {{200, 1}, {201, 0}};
-        for (int[] l : long2) {
+        Bench e = new Bench();
+        e.log.cut();
+        int[] empty = Bench.join(Bench.record(0, 1, 1), Bench.record(2, 1, 1));
+        e.lay(2, Bench.sector(1, empty.length, 0, 1, empty));
+        e.lay(3, Bench.sector(2, 8, 0, 1, Bench.record(2, 1, 1)));
+        due.is("none behind a size of 0", e.log.start(), 0);
+        int[][] longest = {{200, 1}, {201, 0}};
+        for (int[] l : longest) {
             Bench b = new Bench();
             b.log.cut();
             int[] data = Bench.record(l[0], 1, 1);
