@@ -27,6 +27,25 @@ final class Bench {
         return log.start();
     }
 
+    /** A log that is off, with these sectors laid from sector 2 on. */
+    static Bench laid(int[]... sectors) {
+        Bench b = new Bench();
+        b.log.cut();
+        for (int k = 0; k < sectors.length; k++) {
+            b.lay(2 + k, sectors[k]);
+        }
+        return b;
+    }
+
+    /** A log of so many records of one byte each, every one in a sector of its own. */
+    static Bench used(int sectors) {
+        Bench b = new Bench();
+        for (int r = 1; r <= sectors; r++) {
+            b.appendAndFlush(1, r);
+        }
+        return b;
+    }
+
     /** Lays bytes over a sector that has never been written (all 0); the power must be off. */
     void lay(int sector, int[] bytes) {
         for (int i = 0; i < bytes.length; i++) {

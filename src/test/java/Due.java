@@ -2,13 +2,19 @@
 final class Due {
     private int calls = 0;
     private int wrong = 0;
+    private String sentence = "";
+
+    /** The sentence of the document that the next answers are due by. */
+    void by(String words) {
+        sentence = "\"" + words + "\": ";
+    }
 
     void is(String call, long got, long want) {
         calls++;
         if (got != want) {
             wrong++;
             if (wrong <= 50) {
-                System.out.println(call + " answered " + got + ", due is " + want);
+                System.out.println(sentence + call + " answered " + got + ", due is " + want);
             }
         }
     }
