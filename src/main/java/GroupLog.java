@@ -309,7 +309,10 @@ public final class GroupLog {
         }
 
         int number(int i) {
-            return get(i) << 24 | get(i + 1) << 16 | get(i + 2) << 8 | get(i + 3);
+            if (i < 0 || i > bytes.length - 4) {
+                return 0;
+            }
+            return bytes[i] << 24 | bytes[i + 1] << 16 | bytes[i + 2] << 8 | bytes[i + 3];
         }
 
         void setNumber(int i, int n) {
@@ -344,7 +347,7 @@ public final class GroupLog {
 
         private int sumOver(int sum, int from, int to) {
             int s = sum;
-            for (int i = Math.max(0, from); i < to && i < bytes.length; i++) {
+            for (int i = from; i >= 0 && i < to && i < bytes.length; i++) {
                 s ^= bytes[i];
                 for (int bit = 0; bit < 8; bit++) {
                     s = (s & 1) == 1 ? s >>> 1 ^ SUM_MASK : s >>> 1;
